@@ -22,9 +22,9 @@ public final class CipherTest {
     }
 
     private static void edges() {
-        SealedStream x = new SealedStream();
         for (long keyHigh : EDGES) {
             for (long keyLow : EDGES) {
+                SealedStream x = new SealedStream();
                 x.key(keyHigh, keyLow);
                 for (long high : EDGES) {
                     asTheLibrary(x, keyHigh, keyLow, high, keyLow ^ high);
@@ -35,10 +35,10 @@ public final class CipherTest {
 
     private static void random() {
         Random random = new Random(45);
-        SealedStream x = new SealedStream();
         for (int run = 0; run < 2000; run++) {
             long keyHigh = random.nextLong();
             long keyLow = random.nextLong();
+            SealedStream x = new SealedStream();
             x.key(keyHigh, keyLow);
             asTheLibrary(x, keyHigh, keyLow, random.nextLong(), random.nextLong());
         }

@@ -50,8 +50,8 @@ public final class KeyTest {
 
     private static void wordsByTheDocument() {
         Random random = new Random(3);
-        SealedStream x = new SealedStream();
         for (int run = 0; run < 200; run++) {
+            SealedStream x = new SealedStream();
             long high = random.nextLong();
             long low = random.nextLong();
             x.key(high, low);

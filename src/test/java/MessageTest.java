@@ -63,10 +63,8 @@ public final class MessageTest {
 
     private static void round(byte[] key, long nonce, int rest, byte[] aside, byte[] text, byte[] sealed,
             long high, long low, int piece) {
-        SealedStream x = withKey(key);
-        seal(x, nonce, rest, aside, text, sealed, high, low, piece);
-        open(x, nonce, rest, aside, text, sealed, high, low, piece);
-        seal(x, nonce, rest, aside, text, sealed, high, low, piece);
+        seal(withKey(key), nonce, rest, aside, text, sealed, high, low, piece);
+        open(withKey(key), nonce, rest, aside, text, sealed, high, low, piece);
     }
 
     private static SealedStream withKey(byte[] key) {
@@ -83,13 +81,20 @@ public final class MessageTest {
         Check.same("8: phase", x.phase(), SealedStream.ASIDE);
         Bytes.givePlain(x, text, sealed, piece);
         Check.same("9: phase", x.phase(), text.length == 0 ? SealedStream.ASIDE : SealedStream.TEXT);
-        Bytes.seen("14: being sealed", x, sealed);
+        beingSealed(x, sealed);
         Check.same("10: seal", x.seal(), text.length);
         Check.same("10: phase", x.phase(), SealedStream.SEALED);
         Check.same("12: tag, HIGH", x.tag(false), high);
         Check.same("12: tag, LOW", x.tag(true), low);
         Check.same("13: length when SEALED", x.length(), text.length);
         Bytes.seen("14: SEALED", x, sealed);
+    }
+
+    private static void beingSealed(SealedStream x, byte[] sealed) {
+        int last = sealed.length - 1;
+        Check.same("14: the first while being sealed", x.at(0), last < 0 ? -1 : sealed[0] & 255);
+        Check.same("14: the last while being sealed", x.at(last), last < 0 ? -1 : sealed[last] & 255);
+        Check.same("14: behind the last while being sealed", x.at(last + 1), -1);
     }
 
     private static void open(SealedStream x, long nonce, int rest, byte[] aside, byte[] text, byte[] sealed,
@@ -220,5 +225,19 @@ public final class MessageTest {
         open(x, NONCE, REST, new byte[0], TEXT, SEALED, 0x4d5c2af327cd64a6L, 0x2cf35abd2ba6fab4L, 8);
         x.start(false, NONCE, REST);
         started(x);
+    shorterAfterLonger();
+    }
+
+    /** Where blocks are filled up with zeros, nothing of an earlier message may stand. */
+    private static void shorterAfterLonger() {
+        SealedStream x = withKey(KEY);
+        x.start(false, 1, 1);
+        Bytes.giveAside(x, Bytes.hex("ff".repeat(48)), 8);
+        for (int from = 0; from < 96; from += 8) {
+            x.text(-1, 8);
+        }
+        x.seal();
+        seal(x, NONCE, REST, ASIDE, Arrays.copyOf(TEXT, 60), Arrays.copyOf(SEALED, 60),
+                0x5bc94fbc3221a5dbL, 0x94fae95ae7121a47L, 8);
     }
 }

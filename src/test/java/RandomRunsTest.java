@@ -1,7 +1,7 @@
 import java.io.ByteArrayOutputStream;
 import java.util.Random;
 
-/** All promises together: random runs of up to 512 calls against a model on the Java library. */
+/** All promises together: random runs against a model on the Java library. */
 public final class RandomRunsTest {
     private static final int[] COUNTS = {0, 1, 2, 3, 4, 5, 6, 7, 8, 8, 8, 8, 8, 8, 8, -1, 9, Integer.MIN_VALUE, Integer.MAX_VALUE};
 
@@ -20,9 +20,10 @@ public final class RandomRunsTest {
     }
 
     public static void main(String[] args) {
-        for (int seed = 0; seed < 400; seed++) {
+        for (int seed = 0; seed < 2000; seed++) {
             RandomRunsTest run = new RandomRunsTest(seed);
-            for (int call = 0; call < 512; call++) {
+            // With what look asks behind each call, an object gets at most 512 calls.
+            for (int call = 0; call < 100; call++) {
                 run.call();
                 run.look();
             }
