@@ -21,6 +21,7 @@ public final class MessageTest {
         longest();
         everyChangeIsRefused();
         latestMessage();
+        shorterAfterLonger();
         Check.end();
     }
 
@@ -225,7 +226,6 @@ public final class MessageTest {
         open(x, NONCE, REST, new byte[0], TEXT, SEALED, 0x4d5c2af327cd64a6L, 0x2cf35abd2ba6fab4L, 8);
         x.start(false, NONCE, REST);
         started(x);
-    shorterAfterLonger();
     }
 
     /** Where blocks are filled up with zeros, nothing of an earlier message may stand. */
