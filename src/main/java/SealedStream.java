@@ -2,7 +2,8 @@
  * Texts sealed with a key of 128 bits so that whoever opens them knows that nothing in them, nor
  * what goes along with them, was changed: AES in the counter mode of Galois, piece by piece.
  *
- * Every row is made once, in a constructor, and used again, so that no call makes an object.
+ * Every row is made once, in a constructor, and used again, so that a call makes no object but the
+ * exception that it throws.
  */
 public final class SealedStream {
     public static final int NONE = 0, ASIDE = 1, TEXT = 2, SEALED = 3, OPENED = 4, REFUSED = 5;
