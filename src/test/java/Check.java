@@ -2,6 +2,8 @@
 final class Check {
     private static int wrong = 0;
     private static int checks = 0;
+    /** What the test that runs now begins its complaints with. */
+    private static String words = "";
 
     private Check() {
     }
@@ -18,8 +20,21 @@ final class Check {
         checks++;
         if (!holds) {
             wrong++;
-            System.out.println(complaint);
+            System.out.println(words + complaint);
         }
+    }
+
+    /** A test of its own for some words of the document: whatever it throws, those behind it run. */
+    static void test(String wordsTested, Runnable test) {
+        words = wordsTested + " | ";
+        int before = checks;
+        try {
+            test.run();
+        } catch (RuntimeException e) {
+            that("threw " + e + " at " + e.getStackTrace()[0], false);
+        }
+        that("checked nothing", checks > before);
+        words = "";
     }
 
     /** The exception's class must be the very one, no class under it. */

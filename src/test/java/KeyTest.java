@@ -55,64 +55,11 @@ public final class KeyTest {
             long high = random.nextLong();
             long low = random.nextLong();
             x.key(high, low);
-            int[] due = dueWords(high, low);
+            int[] due = Reference.words(high, low);
             for (int i = 0; i < 44; i++) {
                 Check.same("3: word(" + i + ") of a random key", x.word(i), due[i]);
             }
         }
-    }
-
-    private static int[] dueWords(long high, long low) {
-        int[] w = new int[44];
-        int r = 1;
-        for (int i = 0; i < 44; i++) {
-            if (i < 4) {
-                w[i] = (int) ((i < 2 ? high : low) >> (i % 2 == 0 ? 32 : 0));
-                continue;
-            }
-            int t = w[i - 1];
-            if (i % 4 == 0) {
-                int moved = t << 8 | t >>> 24;
-                t = 0;
-                for (int shift = 24; shift >= 0; shift -= 8) {
-                    t |= subst(moved >>> shift & 255) << shift;
-                }
-                t ^= r << 24;
-                r = mul(2, r);
-            }
-            w[i] = w[i - 4] ^ t;
-        }
-        return w;
-    }
-
-    private static int mul(int a, int b) {
-        int product = 0;
-        for (int i = 0; i < 8; i++) {
-            if ((a >> i & 1) == 1) {
-                product ^= b << i;
-            }
-        }
-        for (int i = 15; i >= 8; i--) {
-            if ((product >> i & 1) == 1) {
-                product ^= 0b100011011 << (i - 8);
-            }
-        }
-        return product;
-    }
-
-    private static int subst(int b) {
-        int c = 0;
-        for (int candidate = 1; candidate < 256; candidate++) {
-            if (mul(b, candidate) == 1) {
-                c = candidate;
-            }
-        }
-        int s = 0;
-        for (int i = 0; i < 8; i++) {
-            int bit = c >> i ^ c >> (i + 4) % 8 ^ c >> (i + 5) % 8 ^ c >> (i + 6) % 8 ^ c >> (i + 7) % 8 ^ 99 >> i;
-            s |= (bit & 1) << i;
-        }
-        return s;
     }
 
     private static void wrongWords() {
@@ -126,10 +73,10 @@ public final class KeyTest {
     }
 
     private static void keyEndsAMessage() {
-        for (int phase = SealedStream.NONE; phase <= SealedStream.REFUSED; phase++) {
-            SealedStream x = PhaseTest.inPhase(phase, phase >= SealedStream.OPENED);
+        for (Situation s : Situation.ALL) {
+            SealedStream x = s.make();
             x.key(7, 8);
-            String what = "2: key in phase " + phase;
+            String what = "2: key in " + s;
             Check.same(what + ": phase", x.phase(), SealedStream.NONE);
             Check.same(what + ": length", x.length(), 0);
             Bytes.unseen(what, x);
@@ -142,7 +89,7 @@ public final class KeyTest {
     }
 
     private static void keyKeepsNothing() {
-        SealedStream x = PhaseTest.inPhase(SealedStream.SEALED, false);
+        SealedStream x = new Situation(SealedStream.SEALED, false).make();
         x.key(7, 8);
         SealedStream y = new SealedStream();
         y.key(7, 8);

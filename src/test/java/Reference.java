@@ -5,7 +5,7 @@ import javax.crypto.Cipher;
 import javax.crypto.spec.GCMParameterSpec;
 import javax.crypto.spec.SecretKeySpec;
 
-/** What the Java library answers, and a product by the words of the document alone. */
+/** What the Java library answers; words, SUBST and the product by the words of the document alone. */
 final class Reference {
     private Reference() {
     }
@@ -50,6 +50,59 @@ final class Reference {
 
     static long tagLow(byte[] sealedAndTag) {
         return Bytes.highestFirst(sealedAndTag, sealedAndTag.length - 8);
+    }
+
+    static int[] words(long high, long low) {
+        int[] w = new int[44];
+        int r = 1;
+        for (int i = 0; i < 44; i++) {
+            if (i < 4) {
+                w[i] = (int) ((i < 2 ? high : low) >> (i % 2 == 0 ? 32 : 0));
+                continue;
+            }
+            int t = w[i - 1];
+            if (i % 4 == 0) {
+                int moved = t << 8 | t >>> 24;
+                t = 0;
+                for (int shift = 24; shift >= 0; shift -= 8) {
+                    t |= subst(moved >>> shift & 255) << shift;
+                }
+                t ^= r << 24;
+                r = mul(2, r);
+            }
+            w[i] = w[i - 4] ^ t;
+        }
+        return w;
+    }
+
+    static int mul(int a, int b) {
+        int product = 0;
+        for (int i = 0; i < 8; i++) {
+            if ((a >> i & 1) == 1) {
+                product ^= b << i;
+            }
+        }
+        for (int i = 15; i >= 8; i--) {
+            if ((product >> i & 1) == 1) {
+                product ^= 0b100011011 << (i - 8);
+            }
+        }
+        return product;
+    }
+
+    static int subst(int b) {
+        int c = 0;
+        for (int candidate = 1; candidate < 256; candidate++) {
+            if (mul(b, candidate) == 1) {
+                c = candidate;
+            }
+        }
+        int s = 0;
+        for (int i = 0; i < 8; i++) {
+            int bit = c >> i ^ c >> (i + 4) % 8 ^ c >> (i + 5) % 8 ^ c >> (i + 6) % 8 ^ c >> (i + 7) % 8 ^ 99 >> i;
+            s |= (bit & 1) << i;
+        }
+        return s;
     }
 
     /** Multiplies without a modulus first, then takes it away from the highest power down. */
